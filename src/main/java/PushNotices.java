@@ -31,7 +31,7 @@ public final class PushNotices {
     private int online = 0;
     private int dozing = 0;
 
-    private final int[] offset = new int[MOST_DEVICES];
+    private final int[] zoneOffset = new int[MOST_DEVICES];
     private final int[] quietFrom = new int[MOST_DEVICES];
     private final int[] quietTo = new int[MOST_DEVICES];
     private final int[] quotaDay = new int[MOST_DEVICES];
@@ -66,7 +66,7 @@ public final class PushNotices {
         }
         int device = deviceCount;
         deviceCount++;
-        this.offset[device] = offset;
+        zoneOffset[device] = offset;
         devicesOfUser[user] |= bitOf(device);
         alive |= bitOf(device);
         online |= bitOf(device);
@@ -358,7 +358,7 @@ public final class PushNotices {
     // Quiet hours and quotas.
 
     private int localTime(int device) {
-        return Math.floorMod(minute + offset[device], DAY);
+        return Math.floorMod(minute + zoneOffset[device], DAY);
     }
 
     // Both times are counted from the start of the quiet hours, so that midnight needs no case of its own.

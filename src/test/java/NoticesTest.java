@@ -23,6 +23,7 @@ final class NoticesTest {
         countsWaiting();
         tellsQuota();
         refusesQueries();
+        holdsAllDevicesAndNotices();
         CHECKS.end();
     }
 
@@ -372,5 +373,31 @@ final class NoticesTest {
             x.addDevice(0, 0);
             x.send(0, NONE, false, 5);
         }
+    }
+
+    private static void holdsAllDevicesAndNotices() {
+        PushNotices x = new PushNotices();
+        for (int device = 0; device < 16; device++) {
+            x.addDevice(7, 0);
+            x.setDozing(device, true);
+            x.setOnline(device, false);
+        }
+        x.pass(1);
+        for (int notice = 0; notice < 120; notice++) {
+            x.send(7, notice % 40 == 0 ? notice / 40 : NONE, notice % 2 == 0, 3000);
+        }
+        same("15: all notices wait for all devices", 0xFFFF, x.waitsFor(119));
+        same("19: the last device", 120, x.waiting(15));
+        same("7: the last device", 120, x.kill(15));
+        same("3: three high ones by the quota", 3, x.setOnline(14, true));
+        same("18: badge", 3, x.badge(14));
+        same("20: quota", 0, x.quota(14));
+        same("21: the normal ones in the window", 60, x.pass(59));
+        same("18: badge then", 63, x.badge(14));
+        same("4: the other high ones", 57, x.setDozing(14, false));
+        same("18: all in the badge", 120, x.badge(14));
+        same("12: the last notice is read", 14, x.read(14, 119));
+        same("21: no more on this day", 0, x.pass(1380));
+        same("23: deliveries", 120, x.deliveries());
     }
 }

@@ -9,6 +9,7 @@ final class TimeTest {
         fallsBeforeItDelivers();
         deliversWithinOneCall();
         deliversAtEndOfQuietHours();
+        findsShortChances();
         sharesQuotaOverDays();
         countsDeliveries();
         CHECKS.end();
@@ -103,6 +104,23 @@ final class TimeTest {
         x.send(0, NONE, false, 3000);
         same("21: dozing, the quiet hours end at 483 and the window is at 540", 0, x.pass(1440 + 539 - 983));
         same("21: the window behind the quiet hours", 1, x.pass(1));
+    }
+
+    /** One device can take its notice in a single minute, amid a long pass. */
+    private static void findsShortChances() {
+        for (int quiet = 0; quiet < 16; quiet++) {
+            PushNotices x = new PushNotices();
+            for (int device = 0; device < 16; device++) {
+                x.addDevice(device % 8, device - 8);
+            }
+            x.setQuiet(quiet, 1200, 100 + quiet);
+            x.pass(70);
+            x.send(quiet % 8, NONE, false, 38);
+            x.send(quiet % 8, NONE, false, 39);
+            same("21: the quiet hours end at 108, with the longer lifetime", 1, x.pass(1000));
+            same("16: the shorter one fell", 0x101 << quiet % 8 & ~(1 << quiet), x.deliveredTo(0));
+            same("16: the longer one came to both", 0x101 << quiet % 8, x.deliveredTo(1));
+        }
     }
 
     private static void sharesQuotaOverDays() {
