@@ -5,6 +5,7 @@ final class Checks {
     }
 
     private final String name;
+    private String sentence = "";
     private int done = 0;
     private int wrong = 0;
 
@@ -12,11 +13,16 @@ final class Checks {
         this.name = name;
     }
 
+    /** Names the sentence of the document that the next checks stand for. */
+    void about(String ofDocument) {
+        sentence = "\"" + ofDocument + "\": ";
+    }
+
     void same(String what, Object due, Object got) {
         done++;
         if (!due.equals(got)) {
             wrong++;
-            System.out.println(name + ": " + what + ": due is " + due + ", got " + got);
+            System.out.println(name + ": " + sentence + what + ": due is " + due + ", got " + got);
         }
     }
 

@@ -48,7 +48,7 @@ final class ModelTest {
 
     private Object[] call() {
         int kind = random.nextInt(100);
-        if (program.devices() < mostDevices && (program.devices() == 0 || kind < 12)) {
+        if (model.devices() < mostDevices && (model.devices() == 0 || kind < 12)) {
             return addDevice();
         }
         if (kind < 30) {
@@ -118,8 +118,8 @@ final class ModelTest {
     }
 
     private Object[] pass() {
-        int toWindow = 60 - program.clock() % 60;
-        int toDay = 1440 - program.clock() % 1440;
+        int toWindow = 60 - model.clock() % 60;
+        int toDay = 1440 - model.clock() % 1440;
         int minutes;
         switch (random.nextInt(pace == 0 ? 10 : 8)) {
             case 0: case 1: case 2:
@@ -177,11 +177,11 @@ final class ModelTest {
     }
 
     private int device() {
-        return random.nextInt(20) == 0 ? within(-1, 16) : random.nextInt(Math.max(1, program.devices()));
+        return random.nextInt(20) == 0 ? within(-1, 16) : random.nextInt(Math.max(1, model.devices()));
     }
 
     private int notice() {
-        int sent = program.sent();
+        int sent = model.sent();
         if (random.nextInt(20) == 0) {
             return within(-1, 120);
         }
@@ -189,7 +189,7 @@ final class ModelTest {
     }
 
     private int timeOfDay() {
-        int now = program.clock() % 1440;
+        int now = model.clock() % 1440;
         return oneOf(now, (now + within(0, 90)) % 1440, random.nextInt(1440), within(-1, 1440), 0, 1439);
     }
 
