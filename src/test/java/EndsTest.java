@@ -12,6 +12,7 @@ final class EndsTest {
         waitsForItsLifetime();
         endsWithinOnePass();
         endsWhenItIsRead();
+        isReadOnWhateverDevice();
         endsWhenItIsReplaced();
         waitsNowhereAtItsEnd();
         staysDelivered();
@@ -99,8 +100,28 @@ final class EndsTest {
         same("no badge", 0, x.badge(0));
         same("no key", NONE, x.standing(0, 3));
         same("nothing comes to the other", 0, x.setOnline(1, true));
+        same("the delivery is not taken back", 1, x.deliveries());
         x.pass(1);
         same("nor does it stand later", false, x.stands(0));
+    }
+
+    private static void isReadOnWhateverDevice() {
+        CHECKS.about("12: on a device to which it was delivered; whatever state that is in");
+        PushNotices x = Made.at(7);
+        for (int sent = 0; sent < 4; sent++) {
+            x.send(0, NONE, false, 10);
+        }
+        x.setOnline(0, false);
+        same("offline", 0, x.read(0, 0));
+        x.setOnline(0, true);
+        x.setDozing(0, true);
+        same("dozing", 0, x.read(0, 1));
+        x.setQuiet(0, 7, 8);
+        same("in its quiet hours", 0, x.read(0, 2));
+        x.kill(0);
+        same("dead", 0, x.read(0, 3));
+        same("no badge", 0, x.badge(0));
+        same("four deliveries", 4, x.deliveries());
     }
 
     private static void endsWhenItIsReplaced() {
@@ -294,7 +315,10 @@ final class EndsTest {
         same("devices", 2, x.devices());
         same("badge", 1, x.badge(0));
         same("quota", 2, x.quota(0));
-        same("quiet", true, x.setQuiet(0, 0, 1) == 0 && x.isQuiet(0));
+        same("quiet hours are set", 0, x.setQuiet(0, 1430, 1));
+        same("it is quiet", true, x.isQuiet(0));
+        same("others are set", 0, x.setQuiet(0, 1, 5));
+        same("it is not yet quiet", false, x.isQuiet(0));
         same("joins", false, x.join(0, 3, true));
         same("had joined", true, x.join(0, 3, false));
         x.pass(1440);

@@ -27,6 +27,7 @@ final class LimitsTest {
         countsOnlyHighOnes();
         countsOnlyWhileDozing();
         countsOverNaps();
+        countsWhateverIsSet();
         countsForEachDevice();
         givesThreeOnEachDay();
         answersAll512Calls();
@@ -98,6 +99,8 @@ final class LimitsTest {
         same("all are delivered", 120, x.badge(0));
         same("the last one stands", true, x.stands(119));
         CHECKS.index("no notice 120", () -> x.stands(120));
+        same("none waits", 0, x.waiting(0));
+        same("none waited", 0, x.kill(0));
     }
 
     private static void sends120ByTopics() {
@@ -295,6 +298,23 @@ final class LimitsTest {
         x.send(0, NONE, true, 100);
         x.send(0, NONE, true, 100);
         same("three are spent", 0, x.deliveredTo(x.send(0, NONE, true, 100)));
+    }
+
+    private static void countsWhateverIsSet() {
+        CHECKS.about("on this day; no other call begins a new count, nor ends it");
+        PushNotices x = dozing(7);
+        x.send(0, NONE, true, 100);
+        x.send(0, NONE, true, 1);
+        x.setOnline(0, false);
+        x.setOnline(0, true);
+        x.setQuiet(0, 5, 500);
+        x.setQuiet(0, 5, 5);
+        x.join(0, 0, true);
+        x.read(0, 0);
+        x.pass(1);
+        same("two are spent, whether they stand or not", 1, x.quota(0));
+        x.kill(0);
+        same("and with a dead token", 1, x.quota(0));
     }
 
     private static void countsForEachDevice() {

@@ -19,7 +19,10 @@ final class RefusalsTest {
     private static final String ARGUMENT = "throws.IllegalArgumentException";
     private static final String INDEX = "throws.IndexOutOfBoundsException";
     private static final String STATE = "throws.IllegalStateException";
-    private static final int[] NO_DEVICE = {-1, 5, 16, Integer.MIN_VALUE, Integer.MAX_VALUE};
+    /** Among them are those that a shift takes for the devices 0 to 4. */
+    private static final int[] NO_DEVICE = {
+        -1, 5, 16, 31, 32, 33, 34, 35, 36, 37, Integer.MIN_VALUE, Integer.MAX_VALUE
+    };
     private static final int[] NO_NOTICE = {-1, 9, 120, Integer.MIN_VALUE, Integer.MAX_VALUE};
     private static final Checks CHECKS = new Checks("RefusalsTest");
 
@@ -146,9 +149,9 @@ final class RefusalsTest {
         tellKeys(story, x);
         passSomeTime(story, x);
         tellDevices(story, x);
+        sendMore(story, x);
         leaveTopics(story, x);
         openDevices(story, x);
-        sendMore(story, x);
         tellNumbers(story, x);
         killAll(story, x);
         return story.toString();
@@ -208,6 +211,18 @@ final class RefusalsTest {
         }
     }
 
+    /** It is no minute of a window, so what comes tells who is online, awake and open. */
+    private static void sendMore(StringBuilder story, PushNotices x) {
+        story.append("\n  more: ");
+        tell(story, () -> x.addDevice(0, 0));
+        for (int user = 0; user < 8; user++) {
+            int ofUser = user;
+            tell(story, () -> x.deliveredTo(x.send(ofUser, NONE, false, 5)));
+            tell(story, () -> x.deliveredTo(x.send(ofUser, NONE, true, 5)));
+        }
+        tell(story, () -> x.deliveredTo(x.sendBy(ANY, 0, 5, true, 5)));
+    }
+
     private static void leaveTopics(StringBuilder story, PushNotices x) {
         story.append("\n  topics: ");
         int devices = Math.min(3, x.devices());
@@ -229,16 +244,6 @@ final class RefusalsTest {
             tell(story, () -> x.setDozing(number, false));
             tell(story, () -> x.setOnline(number, true));
         }
-    }
-
-    private static void sendMore(StringBuilder story, PushNotices x) {
-        story.append("\n  more: ");
-        tell(story, () -> x.addDevice(0, 0));
-        for (int user = 0; user < 8; user++) {
-            int ofUser = user;
-            tell(story, () -> x.deliveredTo(x.send(ofUser, NONE, true, 5)));
-        }
-        tell(story, () -> x.deliveredTo(x.sendBy(ANY, 0, 5, true, 5)));
     }
 
     private static void killAll(StringBuilder story, PushNotices x) {
@@ -281,8 +286,6 @@ final class RefusalsTest {
         }
         full("online 16", INDEX, x -> x.setOnline(16, true));
         full("awake 16", INDEX, x -> x.setDozing(16, false));
-        full("offline 31, the last bit of an int", INDEX, x -> x.setOnline(31, false));
-        full("offline 32, which has the bit of 0", INDEX, x -> x.setOnline(32, false));
     }
 
     private static void setQuiet() {

@@ -16,6 +16,7 @@ final class WrapsTest {
         leavesOneMinuteOfTheDay();
         hasNoneWithBothTheSame();
         endsThemWithBothTheSame();
+        isQuietInWhateverState();
         deliversBehindMidnight();
         deliversAtMidnight();
         deliversInTheOneMinute();
@@ -148,6 +149,22 @@ final class WrapsTest {
             same("both " + time, 1, x.setQuiet(0, time, time));
             same("is delivered at once", 1, x.deliveredTo(x.send(0, NONE, false, 100)));
         }
+    }
+
+    private static void isQuietInWhateverState() {
+        CHECKS.about("9: Tells whether a device is in its quiet hours; whatever else it is");
+        PushNotices x = Made.at(100);
+        x.setQuiet(0, 1430, 101);
+        x.setOnline(0, false);
+        same("offline", true, x.isQuiet(0));
+        x.setDozing(0, true);
+        same("offline and dozing", true, x.isQuiet(0));
+        x.setOnline(0, true);
+        same("dozing", true, x.isQuiet(0));
+        x.kill(0);
+        same("dead", true, x.isQuiet(0));
+        x.pass(1);
+        same("at their end", false, x.isQuiet(0));
     }
 
     private static void deliversBehindMidnight() {
