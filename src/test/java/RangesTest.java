@@ -34,6 +34,7 @@ final class RangesTest {
         conditionOfSendBy();
         firstOfSendBy();
         secondOfSendBy();
+        secondThatIsTheFirst();
         lifetimeOfSendBy();
         userOfStanding();
         keyOfStanding();
@@ -189,6 +190,17 @@ final class RangesTest {
         range("11: second: 0 to 5, which can be the same one", 0, 5, true, second -> {
             PushNotices x = Made.withAllTopics();
             return x.deliveredTo(x.sendBy(ANY, 5, second, false, 1)) == (1 << 5 | 1 << second);
+        });
+    }
+
+    private static void secondThatIsTheFirst() {
+        range("11: second: 0 to 5, which can be the same one", 0, 5, "1 1 0", topic -> {
+            PushNotices x = Made.withDevices(2);
+            x.join(0, topic, true);
+            x.join(1, (topic + 1) % 6, true);
+            return x.deliveredTo(x.sendBy(BOTH, topic, topic, false, 1)) + " "
+                    + x.deliveredTo(x.sendBy(ANY, topic, topic, false, 1)) + " "
+                    + x.deliveredTo(x.sendBy(BUT, topic, topic, false, 1));
         });
     }
 
